@@ -691,10 +691,14 @@ public final class Trellisworks {
     void offer(int metric, int row) {
       int place = count;
       while (place > 0 && isAhead(metric, row, place - 1)) place--;
-      if (place >= room) return;
+      if (place < 0 || place >= room || room > MOST) return;
       if (count < room) count++;
-      for (int i = count - 1; i > place; i--) write(i, metricAt(i - 1), bitsAt(i - 1));
-      write(place, metric, row);
+      for (int i = count - 1; i > place; i--) {
+        metrics[i] = metrics[i - 1];
+        bits[i] = bits[i - 1];
+      }
+      metrics[place] = metric;
+      bits[place] = row;
     }
 
     void offerAll(Ranks others) {
@@ -702,14 +706,8 @@ public final class Trellisworks {
     }
 
     private boolean isAhead(int metric, int row, int place) {
-      int other = metricAt(place);
-      return metric > other || metric == other && row < bitsAt(place);
-    }
-
-    private void write(int place, int metric, int row) {
-      if (place < 0 || place >= metrics.length || place >= bits.length) return;
-      metrics[place] = metric;
-      bits[place] = row;
+      if (place < 0 || place >= MOST) return false;
+      return metric > metrics[place] || metric == metrics[place] && row < bits[place];
     }
   }
 
@@ -765,7 +763,8 @@ public final class Trellisworks {
     private final int message;
     private final int checks;
     private final int length;
-    private final int[] powers = new int[15];
+    /** The powers of a, twice around, so that two logarithms can be added. */
+    private final int[] powers = new int[30];
     private final int[] logs = new int[16];
     private final Row filled = new Row();
     private final Row whole = new Row();
@@ -785,9 +784,9 @@ public final class Trellisworks {
       this.checks = checks;
       this.length = message + checks;
       int x = 1;
-      for (int i = 0; i < field - 1 && i < powers.length; i++) {
+      for (int i = 0; i < powers.length; i++) {
         powers[i] = x;
-        if (x < logs.length) logs[x] = i;
+        if (i < field - 1 && x < logs.length) logs[x] = i;
         x *= 2;
         if (x >= field) x ^= field == 8 ? 11 : 19;
       }
@@ -919,22 +918,17 @@ public final class Trellisworks {
     }
 
     private int power(int exponent) {
-      int turn = field - 1;
-      if (exponent < 0 || turn < 1) return 0;
-      int index = exponent % turn;
-      return index < powers.length ? powers[index] : 0;
-    }
-
-    private int log(int x) {
-      return x >= 0 && x < logs.length ? logs[x] : 0;
+      return exponent >= 0 && exponent < powers.length ? powers[exponent] : 0;
     }
 
     private int times(int x, int y) {
-      return x == 0 || y == 0 ? 0 : power(log(x) + log(y));
+      if (x < 1 || y < 1 || x >= logs.length || y >= logs.length) return 0;
+      return power(logs[x] + logs[y]);
     }
 
     private int over(int x, int y) {
-      return x == 0 || y == 0 ? 0 : power(log(x) + field - 1 - log(y));
+      if (x < 1 || y < 1 || x >= logs.length || y >= logs.length) return 0;
+      return power(logs[x] + field - 1 - logs[y]);
     }
   }
 
@@ -1147,25 +1141,21 @@ public final class Trellisworks {
       if (start >= 0 && start < here.length) here[start].offer(0, 0);
     }
 
+    /** Does a step with all inputs, or with 0 alone. */
     private void advance(int step, boolean isFree, int many) {
+      int registers = isFree ? 2 << memory : 1 << memory;
+      if (step < 0 || step >= gains.length) return;
       for (int i = 0; i < next.length; i++) next[i].begin(many);
-      for (int state = 0; state < 1 << memory && state < here.length; state++) {
-        if (here[state].count == 0) continue;
-        extend(step, state, state);
-        if (isFree) extend(step, state, 1 << memory | state);
+      for (int register = 0; register < registers && register < REGISTERS; register++) {
+        Ranks from = here[register & (1 << memory) - 1];
+        Ranks to = next[register >> 1];
+        int gain = gains[step][register];
+        int input = register >> memory;
+        for (int i = 0; i < from.count; i++) to.offer(from.metricAt(i) + gain, from.bitsAt(i) << 1 | input);
       }
       Ranks[] done = here;
       here = next;
       next = done;
-    }
-
-    private void extend(int step, int state, int register) {
-      int to = register >> 1;
-      if (step >= gains.length || register >= REGISTERS || to >= next.length) return;
-      Ranks from = here[state];
-      int gain = gains[step][register];
-      int input = register >> memory;
-      for (int i = 0; i < from.count; i++) next[to].offer(from.metricAt(i) + gain, from.bitsAt(i) << 1 | input);
     }
 
     /** In how many bits the answers given so many steps late differ from the best message. */
@@ -1673,10 +1663,6 @@ public final class Trellisworks {
       return found == openTold;
     }
 
-    private int bitAt(int places, int place) {
-      return places >> (size - 1 - place) & 1;
-    }
-
     /** The places of a message, the last open one with its check. */
     private int placesOf(Row message) {
       int places = 0;
@@ -1701,8 +1687,8 @@ public final class Trellisworks {
     /** A bit of the word of some of the places. */
     private int wordBit(int places, int first, int many, int bit) {
       int sum = 0;
-      for (int i = 0; i < many; i++) if ((i & bit) == bit) sum ^= bitAt(places, first + i);
-      return sum;
+      for (int i = 0; i < many; i++) if ((i & bit) == bit) sum ^= places >> (size - 1 - first - i);
+      return sum & 1;
     }
 
     boolean isCounted() {
@@ -1732,7 +1718,7 @@ public final class Trellisworks {
       message.empty();
       for (int i = 0; i < size; i++) {
         if (!isOpenAt(i) || done >= messageLength()) continue;
-        message.push(bitAt(places, i));
+        message.push(places >> (size - 1 - i) & 1);
         done++;
       }
       return -here.metricAt(found);
