@@ -637,7 +637,7 @@ public final class Trellisworks {
 
     void copyFirst(Row other, int many) {
       for (int i = 0; i < many && i < numbers.length; i++) numbers[i] = other.get(i);
-      count = many < numbers.length ? many : numbers.length;
+      count = Math.max(0, Math.min(many, numbers.length));
     }
 
     boolean isBits() {
@@ -845,9 +845,9 @@ public final class Trellisworks {
     }
 
     private void writeSums(Row row) {
-      for (int j = 0; j < sums.length; j++) {
+      for (int j = 0; j < sums.length && j + 1 < powers.length; j++) {
         int sum = 0;
-        for (int i = 0; i < length; i++) sum = times(sum, power(j + 1)) ^ Math.max(row.get(i), 0);
+        for (int i = 0; i < length; i++) sum = times(sum, powers[j + 1]) ^ Math.max(row.get(i), 0);
         sums[j] = sum;
       }
     }
@@ -913,22 +913,22 @@ public final class Trellisworks {
       if (which >= 0 && which < doubts.length) doubts[which] = place;
     }
 
+    /** The power of a that a place has in the first sum. */
     private int locator(int place) {
-      return power(length - 1 - place);
-    }
-
-    private int power(int exponent) {
+      int exponent = length - 1 - place;
       return exponent >= 0 && exponent < powers.length ? powers[exponent] : 0;
     }
 
     private int times(int x, int y) {
       if (x < 1 || y < 1 || x >= logs.length || y >= logs.length) return 0;
-      return power(logs[x] + logs[y]);
+      int sum = logs[x] + logs[y];
+      return sum >= 0 && sum < powers.length ? powers[sum] : 0;
     }
 
     private int over(int x, int y) {
       if (x < 1 || y < 1 || x >= logs.length || y >= logs.length) return 0;
-      return power(logs[x] + field - 1 - logs[y]);
+      int rest = logs[x] + field - 1 - logs[y];
+      return rest >= 0 && rest < powers.length ? powers[rest] : 0;
     }
   }
 
@@ -1255,8 +1255,9 @@ public final class Trellisworks {
       return input ^ state >> 1 ^ state & 1;
     }
 
+    /** The sum of w and the elder one, which is in w already and so goes out. */
     private static int checkOf(int state, int input) {
-      return comingIn(state, input) ^ state & 1;
+      return input ^ state >> 1;
     }
 
     private static int stateBehind(int state, int input) {
@@ -1571,7 +1572,7 @@ public final class Trellisworks {
     private int totalOf(Row row, int bit) {
       int sum = row.get(bit);
       if (bit < 0 || bit >= MOST_BITS) return sum;
-      for (int i = 0; i < told.length; i++) sum += told[i][bit];
+      for (int i = 0; i < checks && i < told.length; i++) sum += told[i][bit];
       return sum;
     }
 
