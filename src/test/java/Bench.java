@@ -128,6 +128,13 @@ final class Bench {
     same(now, " by the model", model.shelves.get(shelf).toString().replaceAll("[\\[\\],]", ""), want.trim());
   }
 
+  /** The row of a shelf, on which the class and the model must be at one. */
+  List<Integer> row(int shelf) {
+    List<Integer> row = new ArrayList<>(model.shelves.get(shelf));
+    dueRow(shelf, row.toString().replaceAll("[\\[\\],]", ""));
+    return row;
+  }
+
   private static String rowOf(Played x, int shelf) {
     StringBuilder out = new StringBuilder();
     int size = (int) x.answer("size", shelf);
