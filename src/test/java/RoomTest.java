@@ -2,7 +2,9 @@ import java.lang.management.ManagementFactory;
 
 /** A run's calls share one room, so that the dearest calls may make next to nothing. */
 public final class RoomTest {
-  private static final int CALLS = 512;
+  private static final int CALLS_OF_A_RUN = 512;
+  /** The calls that are measured; with those that come ahead of them an object has 512 at most. */
+  private static final int CALLS = 64;
   /** A run may make some 600,000 objects and 7.3 million elements; a tenth of that is far more than is needed. */
   private static final long MOST_OF_A_RUN = 730_000L * 8;
   private static final long MOST_OF_A_CALL = 64;
@@ -76,7 +78,9 @@ public final class RoomTest {
     for (int i = 0; i < CALLS; i++) call.on(x);
     long end = threads.getThreadAllocatedBytes(id);
     if (!isChecked) return;
-    Check.is(what + ": a run makes " + (end - begin), end - begin <= MOST_OF_A_RUN);
-    Check.is(what + ": a call makes " + (end - made) / CALLS, (end - made) / CALLS <= MOST_OF_A_CALL);
+    long ofCall = (end - made) / CALLS;
+    long ofRun = made - begin + ofCall * CALLS_OF_A_RUN;
+    Check.is(what + ": a run makes " + ofRun, ofRun <= MOST_OF_A_RUN);
+    Check.is(what + ": a call makes " + ofCall, ofCall <= MOST_OF_A_CALL);
   }
 }
