@@ -1039,6 +1039,15 @@ public final class EdgesTest {
     b.due(0, "weight", GRAPH, 1, 3);
     b.due(1, "weight", TAIL, 1, 0);
     b.due(1, "weight", TAIL, 1, 5);
+    says("weight: words are those of the holes as the code has them");
+    Bench holed = new Bench();
+    holed.lay(0, "1 1 0 0");
+    holed.due(0, "shift", 1, 2, 2, 0, 't', 0);
+    // of the steps 0 and 1 the first one is kept, in which the bit comes in
+    holed.due(1, "weight", 0, 1, 0);
+    holed.due(1, "weight", 0, 1, 2);
+    holed.due(2, "weight", 0, 2, 0);
+    holed.due(2, "weight", 0, 2, 2);
     says("weight: the exception that is listed first is thrown");
     b.refused(INDEX, "weight", 7, 0, 0);
     b.refused(UNFIT, "weight", ROOTS, 0, 0);

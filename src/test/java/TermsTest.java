@@ -29,6 +29,7 @@ public final class TermsTest {
     metrics();
     orderOfMessages();
     earlyAnswers();
+    earlyRows();
     twinOrders();
     twinRegisters();
     twinRounds();
@@ -636,6 +637,23 @@ public final class TermsTest {
     for (int i = 0; i < 40; i++) row.append(i % 2 == 0 ? i < 32 ? 1 : 0 : i < 8 ? 0 : -5).append(' ');
     whole.lay(0, row.toString());
     for (int depth = 1; depth <= 20; depth++) whole.due(depth < 4 ? 16 : 0, "early", 0, 0, depth);
+  }
+
+  private static void earlyRows() {
+    says("Early, for 't': of all rows of inputs so far, that end in any state, tails being 0");
+    int[][] codes = {{1, 1, 1, 0}, {1, 3, 2, 0}, {2, 7, 5, 0}, {2, 3, 1, 0}, {3, 15, 11, 0}, {4, 31, 21, 27}, {4, 1, 3, 5}};
+    for (int i = 0; i < codes.length; i++) {
+      for (int length : new int[] {1, 3, 8}) {
+        Bench b = new Bench();
+        b.due(0, "shift", codes[i][0], codes[i][1], codes[i][2], codes[i][3], 't', 15);
+        StringBuilder row = new StringBuilder();
+        for (int j = 0; j < (length + codes[i][0]) * (codes[i][3] == 0 ? 2 : 3); j++) row.append((j * j * 7 + 5 * i + 3 * length) % 13 - 6).append(' ');
+        b.lay(0, row.toString());
+        for (int depth = 1; depth <= length + codes[i][0] + 1; depth++) b.does("early", 0, 0, depth);
+        b.lay(0, row.toString().replaceAll("(^| )([1-9])", "$1-$2"));
+        for (int depth = 1; depth <= length + codes[i][0] + 1; depth++) b.does("early", 0, 0, depth);
+      }
+    }
   }
 
   // ---- twins
