@@ -56,6 +56,7 @@ public final class TermsTest {
     unseenErrors();
     rates();
     seedsCompared();
+    comparedGraphs();
     Check.end();
   }
 
@@ -830,6 +831,9 @@ public final class TermsTest {
     word(b, "0 1", "0 1 1");
     b = graph(2, 8, "7-0 7-1");
     word(b, "1", "1 1");
+    // the third column is that of the second bit alone
+    b = graph(3, 2, "1-0 0-1 1-1 0-2 1-2");
+    word(b, "1", "0 1 1");
     b = graph(4, 3, "0-0 1-0 1-1 2-1 0-2 2-2 2-3");
     word(b, "1", "1 1 1 0");
     b.refused(UNFIT, "encode", 0, 1, 1);
@@ -917,6 +921,15 @@ public final class TermsTest {
       b.due(3, "decodeGraph", 0, 0, 20, 'f', true, 1);
       b.due(1, "decodeGraph", 0, 0, 1, 'f', false, 1);
     }
+    says("an edge that was taken away tells no more");
+    b.due(3, "decodeGraph", 0, 0, 20, 'f', true, 1);
+    b.due(2, "edge", 0, 0, 2);
+    b.lay(0, "6 4 -2");
+    b.due(1, "decodeGraph", 0, 0, 1, 'f', false, 1);
+    b.dueRow(1, "0 0 1");
+    b.due(1, "decodeGraph", 0, 0, 1, 'c', false, 1);
+    b.dueRow(1, "0 0 1");
+    b.due(3, "edge", 0, 0, 2);
     says("if all checks are even, it ends, and the rounds done are told; otherwise, behind the last round, it gives up");
     b.lay(0, "1 1 1");
     b.due(1, "decodeGraph", 0, 0, 20, 'f', false, 1);
@@ -1076,15 +1089,26 @@ public final class TermsTest {
     says("otherwise it gives up: two rows with the same costs, of which the list has room for one");
     Bench alike = new Bench();
     alike.due(0, "splits", 1, 2, 8, true);
-    // 0 1 and 1 0 cost 0, 0 0 and 1 1 cost 1
+    // 0 1 and 1 1 cost 0, 0 0 and 1 0 cost 1
     alike.lay(0, "0 -1");
     alike.refused(NONE, "decodeSplits", 0, 0, 1, 1);
-    alike.lay(0, "-1 0");
-    alike.refused(NONE, "decodeSplits", 0, 0, 1, 1);
-    alike.does("decodeSplits", 0, 0, 2, 1);
-    alike.does("decodeSplits", 0, 0, 3, 1);
-    alike.due(1, "decodeSplits", 0, 0, 4, 1);
-    alike.dueRow(1, "0");
+    alike.refused(NONE, "decode", 0, 0, 1);
+    for (int list = 2; list <= 4; list++) {
+      alike.due(0, "decodeSplits", 0, 0, list, 1);
+      alike.dueRow(1, "1");
+    }
+    says("split codes with a list of 1");
+    Bench greedy = new Bench();
+    greedy.due(0, "splits", 3, 4, 8, false);
+    greedy.lay(0, "-2 -1 -1 0 3 -2 -1 -3");
+    greedy.due(3, "decode", 0, 0, 1);
+    greedy.dueRow(1, "0 0 0 1");
+    greedy.due(3, "decodeSplits", 0, 0, 1, 1);
+    greedy.dueRow(1, "0 0 0 1");
+    greedy.due(2, "decodeSplits", 0, 0, 2, 1);
+    greedy.dueRow(1, "1 0 1 1");
+    greedy.due(2, "decodeSplits", 0, 0, 4, 1);
+    greedy.dueRow(1, "1 0 1 1");
   }
 
   // ---- products
@@ -1220,6 +1244,26 @@ public final class TermsTest {
     b.due(5, "peeled");
     b.due(5, "solved");
     for (int i = 0; i < 5; i++) b.due(1 << i, "piece", i);
+    says("By peeling: the first drop alone, and 30 of which the last one tells first");
+    Bench first = new Bench();
+    first.lay(0, "9 8");
+    first.due(2, "source", 0);
+    first.due(1, "come", seedOf(2, 2), false);
+    first.due(1, "peeled");
+    first.due(2, "come", seedOf(3, 2), false);
+    first.due(2, "peeled");
+    Bench all = new Bench();
+    all.lay(0, "1 2 4 8 16 32 64 128 0 0 0 0");
+    all.due(12, "source", 0);
+    int came = 0;
+    for (int i = 0; i < 18; i++) all.due(++came, "come", seedOf(3, 12), false);
+    for (int i = 1; i < 11; i++) all.due(++came, "come", seedOf(3 << i, 12), false);
+    all.due(29, "come", seedOf(3, 12), false);
+    all.due(0, "peeled");
+    all.due(30, "come", seedOf(1 << 11, 12), false);
+    all.due(12, "peeled");
+    all.due(12, "solved");
+    all.due(true, "isSound");
     says("What is told by all drops together is what follows of their sums");
     Bench sums = new Bench();
     sums.lay(0, "1 2 4 8 16");
@@ -1609,6 +1653,42 @@ public final class TermsTest {
     b.due(0, "compare", 0, 0, 'h', 1, 0);
     b.lay(0, "0 0");
     b.due(-1, "compare", 0, 0, 'h', 1000, 99999);
+  }
+
+  private static void comparedGraphs() {
+    says("of a graph code in 10 rounds by 'f' and by 'c', not damped: just one gives up, or both tell unlike words");
+    // 'f' settles in round 10, or in 11, where 'c' does not in 20; then the other way round
+    comparedGraph(3, 3, "0-0 0-1 1-0 1-1 1-2 2-0 2-1 2-2", "7 -9 -5", 10, 0, true);
+    comparedGraph(4, 3, "0-0 0-1 0-3 1-0 1-1 1-2 1-3 2-1 2-2 2-3", "-11 4 -12 11", 11, 0, false);
+    comparedGraph(5, 3, "0-0 0-1 0-2 0-3 0-4 1-1 1-4 2-0 2-1 2-4", "9 -4 -7 3 2", 0, 10, true);
+    comparedGraph(3, 3, "0-1 0-2 1-1 1-2 2-0 2-1 2-2", "-12 -4 5", 0, 11, false);
+    // unlike words; then the same word in other rounds
+    comparedGraph(4, 2, "0-0 0-2 1-0 1-2 1-3", "-9 11 -2 -10", 2, 1, true);
+    comparedGraph(3, 2, "0-0 0-1 0-2 1-1 1-2", "9 -6 8", 3, 1, false);
+    says("of a split code with lists of 1 and 4");
+    Bench b = new Bench();
+    b.due(0, "splits", 1, 2, 8, true);
+    b.due(1, "splits", 3, 4, 8, false);
+    // a list of 2 finds what a list of 1 does not
+    b.lay(0, "0 -1");
+    b.due(7, "compare", 0, 0, 'f', 0, 7);
+    // a list of 3 does
+    b.lay(0, "-5 3");
+    b.due(7, "compare", 0, 0, 'f', 0, 7);
+    // both tell a word, but not the same one
+    b.lay(0, "-2 -1 -1 0 3 -2 -1 -3");
+    b.due(7, "compare", 1, 0, 'f', 0, 7);
+    b.lay(0, "1 1 1 1 1 1 1 1");
+    b.due(-1, "compare", 1, 0, 'f', 0, 7);
+  }
+
+  private static void comparedGraph(int bits, int checks, String edges, String row, int atOnce, int byCheck, boolean isUnlike) {
+    Bench b = graph(bits, checks, edges);
+    b.lay(0, row);
+    b.due(atOnce == 0 ? NONE : atOnce, "decodeGraph", 0, 0, 20, 'f', false, 1);
+    b.due(byCheck == 0 ? NONE : byCheck, "decodeGraph", 0, 0, 20, 'c', false, 1);
+    for (char kind : "fhdb".toCharArray()) b.due(isUnlike ? 5 : -1, "compare", 0, 0, kind, 0, 5);
+    b.dueRow(0, row);
   }
 
   private static int first(int seed) {
