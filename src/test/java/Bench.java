@@ -4,9 +4,11 @@ import java.lang.reflect.Modifier;
 import java.util.ArrayList;
 import java.util.Arrays;
 import java.util.HashMap;
+import java.util.HashSet;
 import java.util.List;
 import java.util.Map;
 import java.util.NoSuchElementException;
+import java.util.Set;
 
 /**
  * A bench that is called by the names of calls and tells what is due. The model answers each call, too. What was called
@@ -28,6 +30,10 @@ final class Bench {
   private static final Map<String, Method> FACE = methods(Trellisworks.class);
   private static final Map<String, Method> MODEL = methods(Model.class);
   private static String sentence = "";
+
+  /** Which exceptions of a call were met, and of which of its arguments the edges were tried. */
+  private static final Set<String> MET = new HashSet<>();
+  private static final Set<String> TRIED = new HashSet<>();
 
   private final List<Called> story = new ArrayList<>();
   private final Played works = new Played(new Trellisworks());
@@ -166,6 +172,22 @@ final class Bench {
     return out;
   }
 
+  private static void noteTried(String name, Object... args) {
+    for (int i = 0; i < args.length; i++) if (args[i] == Z) TRIED.add(name + " " + i);
+  }
+
+  /** Every exception that a call of the face names must have been met, and of every argument the edges tried. */
+  static void wholeFace(Set<String> without) {
+    for (Method m : FACE.values()) {
+      for (Class<?> exception : m.getExceptionTypes()) Check.is(m.getName() + " has thrown " + exception, MET.contains(m.getName() + " " + exception));
+      for (int i = 0; i < m.getParameterCount(); i++) {
+        String argument = m.getName() + " " + i;
+        boolean isFree = m.getParameterTypes()[i] == boolean.class || without.contains(argument);
+        Check.is("the edges of " + argument, isFree || TRIED.contains(argument));
+      }
+    }
+  }
+
   private static Object[] with(Object z, Object... args) {
     Object[] out = args.clone();
     for (int i = 0; i < out.length; i++) if (out[i] == Z) out[i] = z;
@@ -174,6 +196,7 @@ final class Bench {
 
   /** The last numbers within are taken; the first ones beyond are refused, and those farthest off. */
   void range(Class<?> want, int least, int most, String name, Object... args) {
+    noteTried(name, args);
     taken(name, with(least, args));
     taken(name, with(most, args));
     for (int z : new int[] {least - 1, most + 1, Integer.MIN_VALUE, Integer.MAX_VALUE}) refused(want, name, with(z, args));
@@ -181,6 +204,7 @@ final class Bench {
 
   /** Only these signs are taken, all others refused. */
   void signs(Class<?> want, String only, String name, Object... args) {
+    noteTried(name, args);
     for (char c = 0; c < 256; c++) {
       if (only.indexOf(c) >= 0) taken(name, with(c, args));
       else if (c % 16 == 0 || Character.isLetter(c) && c < 128) refused(want, name, with(c, args));
@@ -198,12 +222,19 @@ final class Bench {
   }
 
   void noCodes(String name, Object... args) {
+    noteTried(name, args);
     for (int code : new int[] {-1, model.codes.size(), 10, Integer.MIN_VALUE, Integer.MAX_VALUE}) refused(INDEX, name, with(code, args));
   }
 
   /** There are the shelves 0 to 15, but this one may not be fit for the call. */
   void noShelves(String name, Object... args) {
-    for (int shelf : new int[] {-1, 16, Integer.MIN_VALUE, Integer.MAX_VALUE}) refused(INDEX, name, with(shelf, args));
+    beyond(INDEX, new int[] {-1, 16, Integer.MIN_VALUE, Integer.MAX_VALUE}, name, args);
+  }
+
+  /** All of these are refused. */
+  void beyond(Class<?> want, int[] all, String name, Object... args) {
+    noteTried(name, args);
+    for (int z : all) refused(want, name, with(z, args));
   }
 
   /**
@@ -212,6 +243,7 @@ final class Bench {
    */
   void refused(Class<?> want, String name, Object... args) {
     Called now = new Called(name, args, true);
+    MET.add(name + " " + want);
     same(now, " by the model", call(MODEL, model, name, args), want);
     for (int look = 0; look < LOOKS; look++) {
       Played met = again(true);

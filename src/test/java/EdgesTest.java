@@ -1,3 +1,5 @@
+import java.util.Set;
+
 /**
  * The edges of each promise: of each argument the last number within and the first one beyond on each side, what is
  * empty and what is full, and each exception of each call with the order in which they come, behind which everything is
@@ -77,6 +79,8 @@ public final class EdgesTest {
     acceptedShare();
     mean();
     isSound();
+    // how many ones are asked for has no bounds
+    Bench.wholeFace(Set.of("weight 2"));
     Check.end();
   }
 
@@ -276,7 +280,9 @@ public final class EdgesTest {
   private static void roots() {
     says("roots: the elements of the field, 8 or 16");
     Bench b = new Bench();
-    for (int z : new int[] {LEAST, -16, -8, 0, 1, 2, 4, 7, 9, 15, 17, 32, 64, MOST}) b.refused(ARGUMENT, "roots", z, 1, 2);
+    b.taken("roots", 8, 1, 2);
+    b.taken("roots", 16, 1, 2);
+    b.beyond(ARGUMENT, new int[] {LEAST, -16, -8, 0, 1, 2, 4, 7, 9, 15, 17, 32, 64, MOST}, "roots", Z, 1, 2);
     says("roots: a code has 2 to 6 checks");
     b.range(ARGUMENT, 2, 6, "roots", 8, 1, Z);
     b.range(ARGUMENT, 2, 6, "roots", 16, 1, Z);
@@ -1108,8 +1114,7 @@ public final class EdgesTest {
     for (char bound : "shg".toCharArray()) {
       says("allows: the length, 1 to 40");
       b.range(ARGUMENT, 1, 40, "allows", bound, Z, 1, 1);
-      says("allows: the bits of the message, 1 to the length");
-      says("allows: the distance, 1 to the length");
+      says("allows: the bits of the message, 1 to the length; the distance, 1 to the length");
       for (int length : new int[] {1, 2, 7, 39, 40}) {
         b.range(ARGUMENT, 1, length, "allows", bound, length, Z, 1);
         b.range(ARGUMENT, 1, length, "allows", bound, length, 1, Z);
@@ -1404,7 +1409,7 @@ public final class EdgesTest {
     b.range(INDEX, 0, 15, "read", 1, 0, Z);
     b.taken("read", 15, 0, 2);
     b.refused(INDEX, "read", 3, 0, 2);
-    for (int place : new int[] {-1, 39, 40, 64, LEAST, MOST}) b.refused(INDEX, "read", 1, place, 2);
+    b.beyond(INDEX, new int[] {-1, 39, 40, 64, LEAST, MOST}, "read", 1, Z, 2);
     says("read: UnsupportedOperationException if the row is not of bits");
     b.due(40, "put", 15, 2);
     b.refused(UNFIT, "read", 15, 0, 2);
