@@ -363,7 +363,7 @@ public final class Trellisworks {
   public int traps(int code, int bits, int odd) throws IndexOutOfBoundsException, UnsupportedOperationException, IllegalArgumentException {
     Graph used = graphAt(code);
     if (used == null) throw new UnsupportedOperationException("kind");
-    if (isOutside(bits, 1, 3) || isOutside(odd, 0, Graph.MOST_CHECKS)) throw new IllegalArgumentException("number");
+    if (isOutside(bits, 1, Graph.MOST_CHOSEN) || isOutside(odd, 0, Graph.MOST_CHECKS)) throw new IllegalArgumentException("number");
     return used.countTraps(bits, odd);
   }
 
@@ -1147,8 +1147,11 @@ public final class Trellisworks {
       if (step < 0 || step >= gains.length) return;
       for (int i = 0; i < next.length; i++) next[i].begin(many);
       for (int register = 0; register < registers && register < REGISTERS; register++) {
-        Ranks from = here[register & (1 << memory) - 1];
-        Ranks to = next[register >> 1];
+        int state = register & (1 << memory) - 1;
+        int behind = register >> 1;
+        if (state < 0 || state >= here.length || behind >= next.length) continue;
+        Ranks from = here[state];
+        Ranks to = next[behind];
         int gain = gains[step][register];
         int input = register >> memory;
         for (int i = 0; i < from.count; i++) to.offer(from.metricAt(i) + gain, from.bitsAt(i) << 1 | input);
@@ -1203,17 +1206,17 @@ public final class Trellisworks {
 
     Twins(int length, char law, int a, int b) {
       this.length = length;
-      if (law == 's') orderBySteps(order, length, a, b);
-      else if (law == 'r') orderByColumns(order, length, a);
-      else orderByDraws(order, length, b);
+      if (law == 's') orderBySteps(a, b);
+      else if (law == 'r') orderByColumns(a);
+      else orderByDraws(b);
     }
 
-    private static void orderBySteps(int[] order, int length, int a, int b) {
+    private void orderBySteps(int a, int b) {
       if (length < 1) return;
       for (int i = 0; i < length && i < order.length; i++) order[i] = (a * i + b) % length;
     }
 
-    private static void orderByColumns(int[] order, int length, int columns) {
+    private void orderByColumns(int columns) {
       int done = 0;
       if (columns < 1) return;
       for (int column = 0; column < columns; column++) {
@@ -1221,7 +1224,7 @@ public final class Trellisworks {
       }
     }
 
-    private static void orderByDraws(int[] order, int length, int seed) {
+    private void orderByDraws(int seed) {
       long z = seed;
       for (int i = 0; i < order.length; i++) order[i] = i;
       for (int i = length - 1; i > 0 && i < order.length; i--) {
@@ -1380,6 +1383,7 @@ public final class Trellisworks {
   private static final class Graph extends Code {
     static final int MOST_BITS = 16;
     static final int MOST_CHECKS = 8;
+    static final int MOST_CHOSEN = 3;
     private static final int LOUDEST = 31;
     private static final int COMPARED_ROUNDS = 10;
     private final int bits;
@@ -1498,6 +1502,7 @@ public final class Trellisworks {
 
     /** Counts the ways to choose so many more bits, at most three, to those whose columns have a sum. */
     private int countTrapsFrom(int first, int many, int sum, int odd) {
+      if (many > MOST_CHOSEN) return 0;
       if (many <= 0) return Integer.bitCount(sum) == odd ? 1 : 0;
       int found = 0;
       for (int i = first; i < bits; i++) found += countTrapsFrom(i + 1, many - 1, sum ^ columnOf(i), odd);
@@ -1612,24 +1617,22 @@ public final class Trellisworks {
       this.openTold = openTold;
       this.isChecked = isChecked;
       for (int i = 0; i < size && i < open.length; i++) open[i] = true;
-      for (int i = openTold; i < size; i++) {
-        int worst = worstOpen(open, power, loss);
-        if (worst >= 0 && worst < open.length) open[worst] = false;
-      }
+      for (int i = openTold; i < size; i++) shutWorst(loss);
     }
 
-    private static int worstOpen(boolean[] open, int power, int loss) {
+    /** Shuts the open place with the greatest number, of several the lowest one. */
+    private void shutWorst(int loss) {
       int worst = -1;
       long greatest = -1;
       for (int i = 0; i < open.length; i++) {
-        if (!open[i] || numberOf(i, power, loss) <= greatest) continue;
+        if (!open[i] || numberOf(i, loss) <= greatest) continue;
         worst = i;
-        greatest = numberOf(i, power, loss);
+        greatest = numberOf(i, loss);
       }
-      return worst;
+      if (worst >= 0 && worst < open.length) open[worst] = false;
     }
 
-    private static long numberOf(int place, int power, int loss) {
+    private long numberOf(int place, int loss) {
       long z = loss * 4096L;
       for (int i = power - 1; i >= 0; i--) {
         long product = z * z / WHOLE;
